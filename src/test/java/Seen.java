@@ -1,0 +1,52 @@
+/** All that can be asked of section 2, as one text, so that two moments can be compared. */
+final class Seen {
+    private Seen() {
+    }
+
+    static String allOf(GuardCells x) {
+        StringBuilder all = new StringBuilder();
+        for (int what = 0; what <= 11; what++) {
+            note(all, "count " + what, x.count(what));
+        }
+        for (int cell = 0; cell < 4; cell++) {
+            for (int what = 0; what <= 11; what++) {
+                note(all, "cell " + cell + " " + what, x.cell(cell, what));
+            }
+            for (int i = 0; i <= 4; i++) {
+                note(all, "queued " + cell + " " + i, x.queued(cell, i));
+            }
+        }
+        for (int call = 0; call < 12; call++) {
+            for (int what = 0; what <= 6; what++) {
+                note(all, "call " + call + " " + what, x.call(call, what));
+            }
+            for (int cell = 0; cell < 4; cell++) {
+                note(all, "level " + call + " " + cell, x.level(call, cell, 0));
+                note(all, "streak " + call + " " + cell, x.level(call, cell, 1));
+            }
+        }
+        for (int i = 0; i <= 12; i++) {
+            for (int what = 0; what < 3; what++) {
+                note(all, "pair " + i + " " + what, x.pair(i, what));
+            }
+        }
+        return all.toString();
+    }
+
+    private static void note(StringBuilder all, String what, int answer) {
+        all.append(what).append(" = ").append(answer).append('\n');
+    }
+
+    static void same(String what, String got, String want) {
+        String[] gotLines = got.split("\n");
+        String[] wantLines = want.split("\n");
+        int differing = 0;
+        for (int i = 0; i < gotLines.length; i++) {
+            if (!gotLines[i].equals(wantLines[i])) {
+                System.out.println(what + ": " + gotLines[i] + ", due is " + wantLines[i]);
+                differing++;
+            }
+        }
+        Due.due(what + ": answers that differ", differing, 0);
+    }
+}
