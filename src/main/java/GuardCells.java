@@ -354,9 +354,6 @@ public final class GuardCells {
 
         private void begin() {
             cells = 0;
-            Arrays.fill(channels, 0);
-            Arrays.fill(guard, 0);
-            Arrays.fill(places, 0);
             System.arraycopy(SETTING_FIRST, 0, setting, 0, SETTINGS);
         }
 
@@ -537,7 +534,7 @@ public final class GuardCells {
         private final int[] pairMoves = new int[MOST_PAIRS];
 
         private Traffic() {
-            Arrays.fill(own, NONE);
+            clearCalls();
         }
 
         private void begin(Told told) {
@@ -546,7 +543,12 @@ public final class GuardCells {
             pairs = 0;
             System.arraycopy(told.guard, 0, guard, 0, MOST_CELLS);
             Arrays.fill(tally, 0);
+            clearCalls();
+        }
+
+        private void clearCalls() {
             Arrays.fill(own, NONE);
+            Arrays.fill(waitsFor, NONE);
         }
 
         private void copyFrom(Traffic other) {
@@ -576,11 +578,7 @@ public final class GuardCells {
         }
 
         private int present() {
-            int many = 0;
-            for (int call = 0; call < MOST_CALLS; call++) {
-                many += own[call] != NONE ? 1 : 0;
-            }
-            return many;
+            return MOST_CALLS - callsOf(own, NONE);
         }
 
         private int lowestAbsent() {
@@ -593,21 +591,17 @@ public final class GuardCells {
         }
 
         private int busy(int cell) {
-            int many = 0;
-            for (int call = 0; call < MOST_CALLS; call++) {
-                many += own[call] == cell ? 1 : 0;
-            }
-            return many;
-        }
-
-        private boolean isWaiting(int call, int cell) {
-            return own[call] != NONE && waitsFor[call] == cell;
+            return callsOf(own, cell);
         }
 
         private int waiting(int cell) {
+            return callsOf(waitsFor, cell);
+        }
+
+        private static int callsOf(int[] row, int cell) {
             int many = 0;
-            for (int call = 0; call < MOST_CALLS; call++) {
-                many += isWaiting(call, cell) ? 1 : 0;
+            for (int call = 0; call < row.length; call++) {
+                many += row[call] == cell ? 1 : 0;
             }
             return many;
         }
@@ -717,7 +711,6 @@ public final class GuardCells {
         }
 
         private int hear(int call) {
-            freedMany = 0;
             now.heard[call]++;
             now.heardSinceMove[call]++;
             smoothLevels(call);
@@ -790,7 +783,6 @@ public final class GuardCells {
         }
 
         private int end(int call) {
-            freedMany = 0;
             vanish(call);
             return serveFreed();
         }
@@ -841,13 +833,14 @@ public final class GuardCells {
                     moved++;
                 }
             }
+            freedMany = 0;
             return moved;
         }
 
         /** The CALL that WAITS for a CELL with just so many ahead of it. */
         private int waiter(int cell, int place) {
             for (int call = 0; call < MOST_CALLS; call++) {
-                if (now.isWaiting(call, cell) && aheadOf(call, cell) == place) {
+                if (now.waitsFor[call] == cell && aheadOf(call, cell) == place) {
                     return call;
                 }
             }
@@ -857,7 +850,7 @@ public final class GuardCells {
         private int aheadOf(int call, int cell) {
             int many = 0;
             for (int other = 0; other < MOST_CALLS; other++) {
-                many += now.isWaiting(other, cell) && isBefore(other, call) ? 1 : 0;
+                many += now.waitsFor[other] == cell && isBefore(other, call) ? 1 : 0;
             }
             return many;
         }

@@ -10,6 +10,7 @@ public final class DeedsTest {
         smooths();
         streaksAndDwell();
         targetOfSeveral();
+        streaksEndWithAMove();
         waitsStillAndNoMore();
         turnedAway();
         dropped();
@@ -21,11 +22,14 @@ public final class DeedsTest {
         endsOfOneThatWaits();
         queueByFall();
         fractionsUncut();
+        noFallIsBehindAll();
         sameFractions();
         guardsChange();
         seedsAny();
         undoSix();
         undoBringsAllBack();
+        undoBringsReturnsBack();
+        manyDeeds();
         Due.close();
     }
 
@@ -101,6 +105,13 @@ public final class DeedsTest {
         x.offers(0, 50);
         x.offers(0, 50);
         x.hears(1, 20, 60, 0, 0);
+        x.hears(1, 60, 20, 0, 0);
+        x.offers(1, 50);
+        x.hears(1, 40, 60, 0, 0);
+        Due.due("a RETURN", x.call(1, 4), 1);
+        Due.due("a FALL", x.call(1, 5), 1280);
+        Due.due("a STREAK", x.level(1, 1, 1), 1);
+        x.ends(3);
         x.ends(1);
         Due.due("the lowest", x.offers(0, 7), 1);
         int[] fresh = {0, GuardCells.NONE, 0, 0, 0, 0, GuardCells.NONE};
@@ -109,6 +120,7 @@ public final class DeedsTest {
         }
         Due.due("fresh: level(1, 0, 0)", x.level(1, 0, 0), 448);
         Due.due("fresh: level(1, 1, 0)", x.level(1, 1, 0), 0);
+        Due.due("fresh: level(1, 1, 1)", x.level(1, 1, 1), 0);
         Due.due("the next", x.offers(0, 7), 3);
     }
 
@@ -167,7 +179,7 @@ public final class DeedsTest {
         x.hears(0, 50, 54, 0, 0);
         Due.due("a second time", x.hears(0, 50, 54, 0, 0), 0);
         Due.due("STREAK 2", x.level(0, 1, 1), 2);
-        Due.due("a third time", x.hears(0, 50, 54, 0, 0), 1);
+        Due.due("a third time", x.hears(0, 45, 54, 0, 0), 1);
         Due.due("OWN CELL", x.call(0, 0), 1);
         Due.due("STREAK 0 behind a MOVE", x.level(0, 1, 1), 0);
         Due.due("LEVEL stays", x.level(0, 1, 0), 54 * 64);
@@ -189,6 +201,18 @@ public final class DeedsTest {
         y.hears(0, 50, 60, 40, 0);
         y.hears(0, 50, 60, 99, 0);
         Due.due("only those whose STREAK is enough", y.call(0, 0), 1);
+    }
+
+    private static void streaksEndWithAMove() {
+        GuardCells x = Due.told("c1 0 0;c1 0 0;c1 0 0;c1 0 0;k0;h0;d2;");
+        x.offers(1, 50);
+        x.hears(0, 60, 40, 70, 60);
+        Due.due("STREAK by 0", x.level(0, 0, 1), 1);
+        Due.due("MOVES", x.hears(0, 60, 40, 70, 60), 1);
+        Due.due("to 2", x.call(0, 0), 2);
+        for (int cell = 0; cell < 4; cell++) {
+            Due.due("STREAK by " + cell, x.level(0, cell, 1), 0);
+        }
     }
 
     private static void waitsStillAndNoMore() {
@@ -406,6 +430,26 @@ public final class DeedsTest {
         order(x, 2, 0, 1, GuardCells.NONE);
     }
 
+    /** Where nothing is left above NEED, crosswise products alone would take a FALL of 0 for the same. */
+    private static void noFallIsBehindAll() {
+        GuardCells x = Due.told("c6 0 0;c1 0 4;k0;h0;d1;m10;");
+        x.offers(0, 10);
+        x.offers(0, 50);
+        x.offers(0, 10);
+        x.offers(1, 99);
+        x.hears(0, 10, 60, 0, 0);
+        x.hears(1, 40, 60, 0, 0);
+        x.hears(2, 10, 60, 0, 0);
+        order(x, 1, 0, 2, GuardCells.NONE);
+        x.hears(1, 10, 60, 0, 0);
+        order(x, 1, 0, 2, GuardCells.NONE);
+        x.hears(0, 11, 60, 0, 0);
+        x.hears(2, 11, 60, 0, 0);
+        x.hears(2, 10, 60, 0, 0);
+        x.hears(1, 10, 60, 0, 0);
+        order(x, 2, 0, 1, GuardCells.NONE);
+    }
+
     private static void sameFractions() {
         GuardCells x = Due.told("c6 0 0;c1 0 4;k0;h0;d1;m10;");
         x.offers(0, 50);
@@ -489,6 +533,48 @@ public final class DeedsTest {
         }
         Due.due("undo()", x.undo(), GuardCells.STATE);
         Due.due("GUARD", x.cell(0, 1), 3);
+    }
+
+    private static void undoBringsReturnsBack() {
+        GuardCells x = Due.told("c1 0 0;c1 0 0;k0;h5;d1;w1;");
+        x.offers(0, 50);
+        x.hears(0, 40, 60, 0, 0);
+        x.hears(0, 40, 60, 0, 0);
+        x.undo();
+        x.hears(0, 60, 40, 0, 0);
+        Due.due("HEARD once since, what is UNDONE does not count", x.call(0, 4), 1);
+        x.undo();
+        x.hears(0, 40, 60, 0, 0);
+        x.hears(0, 60, 40, 0, 0);
+        Due.due("HEARD twice since, the MOVE that is UNDONE does not count", x.call(0, 4), 0);
+    }
+
+    private static void manyDeeds() {
+        GuardCells x = Due.told("c1 0 1;c1 0 1;k0;h5;d1;");
+        for (int i = 0; i < 30; i++) {
+            Due.due("offers(0, 50)", x.offers(0, 50), 0);
+            Due.due("offers(1, 50)", x.offers(1, 50), 1);
+            Due.due("hears()", x.hears(1, 60, 40, 0, 0), 2);
+            Due.due("ends(0)", x.ends(0), 1);
+            Due.due("hears()", x.hears(1, 0, 0, 0, 0), 4);
+        }
+        GuardCells y = Due.told("c1 0 1;c1 0 1;c1 0 1;k0;h5;d1;");
+        y.offers(1, 50);
+        y.offers(2, 50);
+        y.hears(1, 0, 60, 40, 0);
+        for (int i = 0; i < 30; i++) {
+            Due.due("offers(0, 50)", y.offers(0, 50), 2);
+            Due.due("ends(2)", y.ends(2), 0);
+        }
+        Due.due("one is served behind many that ended", y.ends(0), 1);
+        Due.due("offers(2, 50)", y.offers(2, 50), 0);
+        y.hears(0, 0, 60, 40, 0);
+        for (int i = 0; i < 30; i++) {
+            Due.due("offers(0, 50)", y.offers(0, 50), 2);
+            Due.due("hears(2, ..)", y.hears(2, 0, 0, 0, 0), 4);
+        }
+        y.hears(1, 0, 0, 0, 0);
+        Due.due("one is served behind many that are DROPPED", y.call(0, 0), 1);
     }
 
     private static void undoBringsAllBack() {

@@ -4,6 +4,7 @@ public final class ImagesTest {
         refused();
         keepsAll();
         keepsWhoWaitedLonger();
+        keepsPairs();
         keepsNothingElse();
         keptThroughUndo();
         counts();
@@ -85,6 +86,29 @@ public final class ImagesTest {
         x.back(0);
         Due.due("as long as the IMAGE has it", x.queued(1, 0), 1);
         Due.due("the other", x.queued(1, 1), 0);
+    }
+
+    private static void keepsPairs() {
+        GuardCells x = Due.told("c1 0 0;c1 0 0;c1 0 0;k0;h5;d1;");
+        x.keep(1);
+        x.offers(0, 50);
+        x.hears(0, 40, 60, 0, 0);
+        x.keep(0);
+        x.back(1);
+        x.offers(0, 50);
+        x.hears(0, 40, 10, 60, 0);
+        x.hears(0, 40, 60, 10, 0);
+        Due.due("PAIRS", x.count(11), 2);
+        x.back(0);
+        Due.due("PAIRS", x.count(11), 1);
+        Due.due("from", x.pair(0, 0), 0);
+        Due.due("to", x.pair(0, 1), 1);
+        x.back(1);
+        x.offers(1, 50);
+        x.hears(0, 10, 40, 60, 0);
+        x.back(0);
+        Due.due("from", x.pair(0, 0), 0);
+        Due.due("to", x.pair(0, 1), 1);
     }
 
     private static void keepsNothingElse() {
