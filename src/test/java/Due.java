@@ -2,8 +2,14 @@
 final class Due {
     private static int right;
     private static int wrong;
+    private static String heading = "";
 
     private Due() {
+    }
+
+    /** What the next answers belong to; it stands ahead of each that is wrong. */
+    static void under(String title) {
+        heading = title.isEmpty() ? "" : title + ": ";
     }
 
     static void due(String call, long got, long want) {
@@ -12,23 +18,38 @@ final class Due {
             return;
         }
         wrong++;
-        System.out.println(call + " answered " + got + ", due is " + want);
+        System.out.println(heading + call + " answered " + got + ", due is " + want);
+    }
+
+    /** What must be so. */
+    static void holds(String what, boolean so) {
+        if (so) {
+            right++;
+            return;
+        }
+        wrong++;
+        System.out.println(heading + what + " does not hold");
     }
 
     /** Types a text and reads it: what tells() answers. */
     static int tell(GuardCells x, String text) {
+        type(x, text);
+        return x.tells();
+    }
+
+    static void type(GuardCells x, String text) {
         for (int i = 0; i < text.length(); i++) {
             x.type(text.charAt(i));
         }
-        return x.tells();
     }
 
     /** A new object whose text was read. */
     static GuardCells told(String text) {
         GuardCells x = new GuardCells();
-        if (tell(x, text) < 0) {
+        int items = tell(x, text);
+        if (items < 0) {
             wrong++;
-            System.out.println("the text is at fault: " + text);
+            System.out.println(heading + "the text is at fault: " + text + ", tells() answered " + items);
         }
         return x;
     }

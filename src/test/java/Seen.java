@@ -1,12 +1,21 @@
 /** All that can be asked of section 2, as one text, so that two moments can be compared. */
 final class Seen {
+    private static final int UNDONE = 10;
+
     private Seen() {
     }
 
     static String allOf(GuardCells x) {
+        return "count 10 = " + x.count(UNDONE) + "\n" + allButUndone(x);
+    }
+
+    /** All but how many may be UNDONE. */
+    static String allButUndone(GuardCells x) {
         StringBuilder all = new StringBuilder();
         for (int what = 0; what <= 11; what++) {
-            note(all, "count " + what, x.count(what));
+            if (what != UNDONE) {
+                note(all, "count " + what, x.count(what));
+            }
         }
         for (int cell = 0; cell < 4; cell++) {
             for (int what = 0; what <= 11; what++) {
