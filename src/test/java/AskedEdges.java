@@ -35,7 +35,8 @@ final class AskedEdges {
     }
 
     static void cellCounts() {
-        Sentence.of("Promise 11", "6 OFFERED to it, 7 TAKEN, 8 that ASKED to go there, 9 were TURNED away there, 10 MOVED there, 11 were DROPPED in it");
+        Sentence.of("Promise 11", "6 OFFERED to it, 7 TAKEN, 8 that ASKED to go there, 9 were TURNED away there, "
+                + "10 MOVED there, 11 were DROPPED in it.");
         GuardCells x = town();
         int[][] due = {{2, 2, 0, 0, 0, 0}, {0, 0, 3, 1, 1, 0}, {3, 2, 0, 0, 0, 1}};
         for (int cell = 0; cell < due.length; cell++) {

@@ -577,7 +577,7 @@ public final class DeedsTest {
         Due.due("one is served behind many that are DROPPED", y.call(0, 0), 1);
     }
 
-    private static void undoBringsAllBack() {
+    private static GuardCells waitingTown() {
         GuardCells x = Due.told("c2 5 0;c1 0 2;k1;h0;d1;m10;");
         x.offers(0, 50);
         x.offers(1, 50);
@@ -585,21 +585,28 @@ public final class DeedsTest {
         x.sees(1, 1);
         x.type('c');
         x.hears(0, 40, 90, 0, 0);
-        String ahead = Seen.allOf(x);
+        return x;
+    }
+
+    private static void undoBringsAllBack() {
+        String ahead = Seen.allOf(waitingTown());
+        GuardCells x = waitingTown();
         x.hears(2, 20, 90, 0, 0);
         Due.due("undo() of hears()", x.undo(), 4);
         Seen.same("hears() undone", Seen.allOf(x), ahead);
-        x.ends(1);
-        Due.due("undo() of ends()", x.undo(), 4);
-        Seen.same("ends() undone", Seen.allOf(x), ahead);
-        x.offers(0, 20);
-        Due.due("undo() of offers()", x.undo(), 4);
-        Seen.same("offers() undone", Seen.allOf(x), ahead);
-        x.sees(2, 0);
-        x.type('1');
-        x.guards(0, 0);
-        x.undo();
-        Due.due("SEEN is not undone", x.count(8), 2);
-        Due.due("THE TEXT is not undone", x.count(9), 2);
+        GuardCells y = waitingTown();
+        y.ends(1);
+        Due.due("undo() of ends()", y.undo(), 4);
+        Seen.same("ends() undone", Seen.allOf(y), ahead);
+        GuardCells z = waitingTown();
+        z.offers(0, 20);
+        Due.due("undo() of offers()", z.undo(), 4);
+        Seen.same("offers() undone", Seen.allOf(z), ahead);
+        z.sees(2, 0);
+        z.type('1');
+        z.guards(0, 0);
+        z.undo();
+        Due.due("SEEN is not undone", z.count(8), 2);
+        Due.due("THE TEXT is not undone", z.count(9), 2);
     }
 }

@@ -46,7 +46,8 @@ final class LongRunEdges {
     }
 
     static void guardHoldsNewOnesBack() {
-        Sentence.of("Terms 3", "with k CHANNELS BUSY it goes up by a times CHANCE by 10, and b (not with all BUSY), down by k times c");
+        Sentence.of("Terms 3", "with k CHANNELS BUSY it goes up by a times CHANCE by 10, and b (not with all BUSY), "
+                + "down by k times c.");
         // GUARD 15 of 2: CHANCE is 5, 0, 0; up 3 times 5 by 10 and 2, then 2; down 1, then 2: SHARES 2, 7, 7 by 16.
         GuardCells x = Due.told("c2 15 0;");
         fraction(x, rates(3, 2, 1), MOVING, 7, 16);

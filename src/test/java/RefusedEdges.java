@@ -45,6 +45,24 @@ final class RefusedEdges {
         TOWN.by(name, call, call.applyAsLong(town()));
     }
 
+    /** What could not be seen to change if the town did not have it. */
+    static void townHasAll() {
+        Sentence.of("Refused", "Refused, and nothing changes");
+        GuardCells x = town();
+        // THE SEED was 12; there were two DRAWS.
+        int[] counts = {3, 4, 0, 1, 0, 10, 2, 1411815354, 2, 2, 6, 1};
+        for (int what = 0; what < counts.length; what++) {
+            Due.due("count(" + what + ")", x.count(what), counts[what]);
+        }
+        Due.due("first in the QUEUE", x.queued(1, 0), 2);
+        Due.due("second", x.queued(1, 1), 1);
+        Due.due("TURNED away", x.cell(1, 9), 1);
+        Due.due("DROPPED", x.cell(0, 11), 1);
+        Due.due("MOVED", x.cell(1, 10), 1);
+        Due.due("CALL 4 is gone", x.call(4, 0), GuardCells.NO);
+        Due.due("IMAGE 1", x.back(1), 2);
+    }
+
     // ---- which is the first
 
     static void badAheadOfFull() {

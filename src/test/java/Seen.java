@@ -46,16 +46,15 @@ final class Seen {
         all.append(what).append(" = ").append(answer).append('\n');
     }
 
+    /** Two such texts, line by line. */
     static void same(String what, String got, String want) {
         String[] gotLines = got.split("\n");
         String[] wantLines = want.split("\n");
-        int differing = 0;
-        for (int i = 0; i < gotLines.length; i++) {
+        Due.due(what + ": how many answers", gotLines.length, wantLines.length);
+        for (int i = 0; i < gotLines.length && i < wantLines.length; i++) {
             if (!gotLines[i].equals(wantLines[i])) {
-                System.out.println(what + ": " + gotLines[i] + ", due is " + wantLines[i]);
-                differing++;
+                Due.holds(what + ": " + wantLines[i] + " (it is " + gotLines[i] + ")", false);
             }
         }
-        Due.due(what + ": answers that differ", differing, 0);
     }
 }

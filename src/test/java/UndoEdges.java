@@ -114,7 +114,8 @@ final class UndoEdges {
     }
 
     static void allIsAsAhead() {
-        Sentence.of("Terms 2", "all that 2 tells (CALLS, who WAITS and since when, all counts, PAIRS, GUARDS, THE SEED) is as ahead of it");
+        Sentence.of("Terms 2", "all that 2 tells (CALLS, who WAITS and since when, all counts, PAIRS, GUARDS, THE SEED) "
+                + "is as ahead of it.");
         undone("offers(), by a DRAW", x -> x.offers(0, 70));
         undone("offers(), not TAKEN", x -> x.offers(1, 70));
         undone("hears(), HEARD", x -> x.hears(0, 30, 80, 0, 0));
@@ -159,9 +160,9 @@ final class UndoEdges {
         }
     }
 
-    /** CELLS of one CHANNEL: CALL 0 MOVES from 0 to one other. */
     private static void moves(GuardCells x, int to) {
-        Due.due("MOVES to " + to, x.hears(0, 0, to == 1 ? 60 : 0, to == 2 ? 60 : 0, to == 3 ? 60 : 0), 1);
+        int answer = x.hears(0, to == 0 ? 60 : 0, to == 1 ? 60 : 0, to == 2 ? 60 : 0, to == 3 ? 60 : 0);
+        Due.due("MOVES to " + to, answer, 1);
     }
 
     static void pairsAsAhead() {
@@ -171,11 +172,13 @@ final class UndoEdges {
         moves(x, 1);
         x.keep(0);
         x.undo();
+        x.undo();
         Due.due("PAIRS", x.count(11), 0);
+        x.offers(3, 50);
         moves(x, 2);
-        moves(x, 3);
+        moves(x, 0);
         x.keep(1);
-        int[][] due = {{0, 2, 1}, {2, 3, 1}};
+        int[][] due = {{3, 2, 1}, {2, 0, 1}};
         samePairs(x, due);
         x.back(0);
         samePairs(x, new int[][] {{0, 1, 1}});
@@ -419,7 +422,8 @@ final class UndoEdges {
     }
 
     static void readAnewAsTold() {
-        Sentence.of("Terms 3", "(Read anew: as told (what is not told as at first), no CALLS, all counts 0, THE SEED 0, nothing SEEN");
+        Sentence.of("Terms 3", "(Read anew: as told (what is not told as at first), no CALLS, all counts 0, THE SEED 0, "
+                + "nothing SEEN");
         String[] texts = {"", "c3 5 0;c1 0 2;k1;h0;d1;m10;", "w9;", "c1 10 4;c2 1 1;c3 2 2;c4 3 3;"};
         for (String text : texts) {
             GuardCells x = anew(text);
