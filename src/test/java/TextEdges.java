@@ -201,6 +201,9 @@ final class TextEdges {
     static void tokensThatCannotStand() {
         Sentence.of("Terms 1", FAULT_OF_ORDER);
         othersCannotStand("", "chdkmw");
+        // 99 is the number of the letter c, yet it is a NUMBER.
+        faultAt("99 1 0 0;", 0);
+        faultAt("c1 0 0;99 1 0 0;", 7);
         othersCannotStand("c1 0 0;", "chdkmw");
         othersCannotStand("c ", "1");
         othersCannotStand("c1 ", "1");
