@@ -460,6 +460,27 @@ final class UndoEdges {
         Due.due("the other is gone", x.back(0), GuardCells.STATE);
     }
 
+    static void readAnewPairs() {
+        Sentence.of("Terms 3", "no CALLS, all counts 0");
+        String text = "c1 0 0;c1 0 0;c1 0 0;c1 0 0;k0;h5;d1;m0;";
+        GuardCells x = Due.told(text);
+        x.offers(0, 50);
+        moves(x, 1);
+        moves(x, 2);
+        Due.tell(x, text);
+        samePairs(x, new int[0][]);
+        x.offers(1, 50);
+        moves(x, 2);
+        moves(x, 0);
+        moves(x, 1);
+        samePairs(x, new int[][] {{1, 2, 1}, {2, 0, 1}, {0, 1, 1}});
+        // The same ones in the same order are counted anew, too.
+        Due.tell(x, text);
+        x.offers(1, 50);
+        moves(x, 2);
+        samePairs(x, new int[][] {{1, 2, 1}});
+    }
+
     static void readAnewByNoItems() {
         Sentence.of("Promise 4", "THE TEXT tells all anew");
         GuardCells x = anew("");
