@@ -8,7 +8,7 @@ import java.util.Comparator;
 public final class EdgesTest {
     private static final Class<?>[] PARTS = {
         TextEdges.class, OfferEdges.class, HearEdges.class, QueueEdges.class, UndoEdges.class, AskedEdges.class,
-        LongRunEdges.class, SeenEdges.class, RefusedEdges.class,
+        LongRunEdges.class, SeenEdges.class, RefusedEdges.class, PlainSentences.class,
     };
 
     public static void main(String[] args) throws IllegalAccessException {

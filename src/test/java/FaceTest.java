@@ -23,6 +23,7 @@ public final class FaceTest {
     private static final String[] CONSTANTS = {"BAD=-1", "FULL=-3", "NO=-1000000", "NONE=-9", "STATE=-2"};
 
     public static void main(String[] args) throws Exception {
+        faceOfDocument();
         face();
         constants();
         constructors();
@@ -40,6 +41,25 @@ public final class FaceTest {
             System.out.println(what + ": " + got + ", due is " + due);
         }
         Due.due(what, got.equals(due) ? 1 : 0, 1);
+    }
+
+    /** What stands above is what the document says under "The public face". */
+    private static void faceOfDocument() throws IOException {
+        String document = Files.readString(Path.of("../shared/DOC.md"));
+        Set<String> methods = new TreeSet<>();
+        Matcher method = Pattern.compile("public (int|long) (\\w+)\\(([^)]*)\\);").matcher(document);
+        while (method.find()) {
+            String types = method.group(3).replaceAll("(\\w+) \\w+", "$1").replace(" ", "");
+            methods.add(method.group(2) + "(" + types + "):" + method.group(1));
+        }
+        same("methods of the document", methods, FACE);
+        Set<String> constants = new TreeSet<>();
+        Matcher all = Pattern.compile("public static final int ([^;]*);").matcher(document);
+        Due.due("constants of the document", all.find() ? 1 : 0, 1);
+        for (String constant : all.group(1).split(",")) {
+            constants.add(constant.replace(" ", ""));
+        }
+        same("constants of the document", constants, CONSTANTS);
     }
 
     private static void face() {

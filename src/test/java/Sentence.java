@@ -1,9 +1,8 @@
 import java.io.IOException;
 import java.nio.file.Files;
 import java.nio.file.Path;
-import java.util.HashSet;
+import java.util.BitSet;
 import java.util.Map;
-import java.util.Set;
 import java.util.TreeMap;
 
 /** Names the sentence of the document that a test holds to, and sees that the document has it in that place. */
@@ -11,16 +10,29 @@ final class Sentence {
     private static final int PROMISES = 23;
     private static final Path DOCUMENT = Path.of("../shared/DOC.md");
     private static final Map<String, String> SECTIONS = sections();
-    private static final Set<String> TESTED = new HashSet<>();
+    /** Of each section the places that a test has quoted. */
+    private static final Map<String, BitSet> QUOTED = new TreeMap<>();
 
     private Sentence() {
     }
 
     static void of(String where, String words) {
         Due.under(where + " \"" + words + "\"");
-        TESTED.add(where);
-        if (SECTIONS.containsKey(where)) {
-            Due.holds("that the document says so there", SECTIONS.get(where).contains(words));
+        String section = SECTIONS.get(where);
+        if (SECTIONS.isEmpty()) {
+            return;
+        }
+        Due.holds("that the document says so there", section != null && section.contains(words));
+        if (section != null) {
+            quote(section, words, QUOTED.computeIfAbsent(where, none -> new BitSet()));
+        }
+    }
+
+    private static void quote(String section, String words, BitSet quoted) {
+        int at = section.indexOf(words);
+        while (at >= 0 && !words.isEmpty()) {
+            quoted.set(at, at + words.length());
+            at = section.indexOf(words, at + 1);
         }
     }
 
@@ -29,18 +41,21 @@ final class Sentence {
         Map<String, String> all = new TreeMap<>();
         String text;
         try {
-            text = Files.readString(DOCUMENT).replaceAll("\\s+", " ");
+            text = Files.readString(DOCUMENT).replace("```text", " ").replace("```", " ").replaceAll("\\s+", " ");
         } catch (IOException e) {
             System.out.println("the document can't be read, so what tests quote is not looked up: " + e);
             return all;
         }
-        all.put("Terms 1", between(text, "## Terms", "======== 2 "));
-        all.put("Terms 2", between(text, "======== 2 ", "======== 3 "));
-        all.put("Terms 3", between(text, "======== 3 ", "Refused, and nothing changes"));
+        all.put("What it is", between(text, "An object is used", "## The public face"));
+        all.put("Terms 1", between(text, "(4 at most)", "======== 2 "));
+        all.put("Terms 2", between(text, "CALLS 0 .. 11", "======== 3 "));
+        all.put("Terms 3", between(text, "(Nothing is changed.)", "Refused, and nothing changes"));
         all.put("Refused", between(text, "Refused, and nothing changes", "Ahead of the calls"));
         for (int i = 1; i <= PROMISES; i++) {
             String end = i < PROMISES ? "## Promise " + (i + 1) + ":" : "## Not promised";
-            all.put("Promise " + i, between(text, "## Promise " + i + ":", end));
+            String promise = between(text, "## Promise " + i + ":", end);
+            // What stands ahead of it is the heading and the call.
+            all.put("Promise " + i, promise.substring(promise.indexOf("`: ") + 1));
         }
         return all;
     }
@@ -51,19 +66,24 @@ final class Sentence {
         return start < 0 || end < 0 ? "" : text.substring(start, end);
     }
 
-    /** Each promise, each section of the terms, and what is said of refused calls, has a sentence that is tested. */
+    /** Every word of the terms, of the promises, of what is said of refused calls stands in a sentence that is tested. */
     static void allAreTested() {
         Due.under("");
-        for (int i = 1; i <= PROMISES; i++) {
-            isTested("Promise " + i);
+        for (Map.Entry<String, String> section : SECTIONS.entrySet()) {
+            BitSet quoted = QUOTED.getOrDefault(section.getKey(), new BitSet());
+            String text = section.getValue();
+            Due.holds("that the document has " + section.getKey(), !text.isEmpty());
+            for (int at = quoted.nextClearBit(0); at < text.length(); at = quoted.nextClearBit(at)) {
+                int next = quoted.nextSetBit(at);
+                int end = next < 0 ? text.length() : next;
+                String left = text.substring(at, end);
+                Due.holds("that a test quotes '" + left + "' of " + section.getKey(), isNoWord(left));
+                at = end;
+            }
         }
-        isTested("Terms 1");
-        isTested("Terms 2");
-        isTested("Terms 3");
-        isTested("Refused");
     }
 
-    private static void isTested(String where) {
-        Due.holds("that a sentence of " + where + " is tested", TESTED.contains(where));
+    private static boolean isNoWord(String text) {
+        return text.chars().noneMatch(Character::isLetterOrDigit);
     }
 }
